@@ -1229,22 +1229,21 @@ public final class CourtMail {
 
         private void endNumber() {
             state = BODY;
+            if (number >= MOST_EXHIBITS || (ownExhibits >> number & 1) == 0) {
+                // the tape makes no document any more, so nothing is put; but error 1 may still come
+                foreignAt = foreignAt < 0 ? numberAt : foreignAt;
+                return;
+            }
+            exhibits |= 1 << number;
             put('E', 0);
             put('x', 0);
             put('.', 0);
             put(' ', 0);
-            if (number >= 100) {
-                put('0' + number / 100, 0);
-            }
+            // an exhibit's number has two digits at most
             if (number >= 10) {
-                put('0' + number / 10 % 10, 0);
+                put('0' + number / 10, 0);
             }
             put('0' + number % 10, 0);
-            if (number < MOST_EXHIBITS && (ownExhibits >> number & 1) == 1) {
-                exhibits |= 1 << number;
-            } else if (foreignAt < 0) {
-                foreignAt = numberAt;
-            }
         }
 
         private static boolean isLetter(int b) {

@@ -48,6 +48,10 @@ final class Checks {
             if (e.getClass() != kind) {
                 tell(what + " throws " + e + ", due is " + kind.getSimpleName());
             }
+            // the class throws itself, no list or string does it for it
+            if (!e.getStackTrace()[0].getClassName().equals("CourtMail")) {
+                tell(what + " is thrown by " + e.getStackTrace()[0]);
+            }
         }
         if (x.digest() != before || x.errorAt() != error) {
             tell(what + " throws, and changes something");

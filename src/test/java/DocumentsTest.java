@@ -269,6 +269,7 @@ public final class DocumentsTest {
         filed("@1", -2, 0);
         filed("ab@1", -2, 2);
         filed("a@2@1@1", -2, 3);
+        filed("@1@1@999", -2, 0);
         filed("@13", -2, 0);
         filed("@20", -2, 0);
         filed("@32", -2, 0);
@@ -309,6 +310,13 @@ public final class DocumentsTest {
         c.due("no text of it", Checks.read(x, 0, 0), "cd");
         CourtMail y = filed("ab]", -1, 2);
         c.due("behind a ]", Checks.file(y, 0, "[1:[2:[3:[4:[5:x]]]]]"), 0);
+        for (String open : new String[] {"x[", "x[3", "{ab", "{", "x@", "[3:@2"}) {
+            CourtMail w = filed(open, -1, open.length());
+            c.due("behind <" + open + ">", Checks.file(w, 0, "cd"), 0);
+            c.due("no level of it", w.document(0, 3), 0);
+            c.due("no text of it", Checks.read(w, 0, 0), "cd");
+            c.due("no exhibit of it", w.exhibit(2, 6), 0);
+        }
         CourtMail z = filed("@1", -2, 0);
         c.due("behind a number", Checks.file(z, 0, "x"), 0);
         c.due("no text of it", Checks.read(z, 0, 0), "x");

@@ -305,6 +305,27 @@ public final class LettersTest {
         x.attach(2, 0);
         c.due("three late ones, attached", x.arrives(6), 3);
         c.due("of another case", x.arrives(0), 1);
+
+        // a clearance of 1 comes down to 0, and one of 0 stays
+        for (int clearance = 0; clearance <= 1; clearance++) {
+            CourtMail y = new CourtMail();
+            y.open(0);
+            y.addPerson(0, clearance);
+            for (int d = 0; d < 3; d++) {
+                Checks.file(y, 0, "a");
+                y.lend(d, 0, 1);
+            }
+            for (int i = 0; i < 7; i++) {
+                y.send(0, 0, 0);
+            }
+            for (int attached = 0; attached <= 1; attached++) {
+                c.due("with no clearance", y.arrives(6), 3);
+                y.seal(0, 2 * attached + 1);
+                c.due("with no clearance, a seal above", y.arrives(6), -1);
+                y.attach(0, 0);
+                y.seal(0, 2);
+            }
+        }
     }
 
     private static void arrivesRefuses() {
@@ -374,6 +395,13 @@ public final class LettersTest {
         Checks.file(x, 1, "[9:#]");
         c.due("a sign that stays a sign", x.sees(1), 2);
         c.due("nothing is written", x.document(3, 7), 0);
+        CourtMail y = new CourtMail();
+        y.open(0);
+        y.addPerson(2, 0);
+        y.addPerson(1, 0);
+        y.addPerson(3, 0);
+        Checks.file(y, 0, "a");
+        c.due("the first", y.sees(0), 0);
         c.refused("sees(-1)", x, Checks.NO_INDEX, () -> x.sees(-1));
         c.refused("sees(2)", x, Checks.NO_INDEX, () -> x.sees(2));
     }
@@ -384,6 +412,12 @@ public final class LettersTest {
         c.due("no documents", x.plain(), 1.0);
         x.file(0);
         c.due("no bytes", x.plain(), 1.0);
+        CourtMail y = new CourtMail();
+        y.open(9);
+        Checks.file(y, 0, "[1:a]");
+        c.due("none of one", y.plain(), 0.0);
+        Checks.file(y, 0, "b");
+        c.due("one of two", y.plain(), 0.5);
         Checks.file(x, 0, "[1:abc]");
         c.due("none", x.plain(), 0.0);
         Checks.file(x, 0, "abcd");

@@ -162,6 +162,7 @@ public final class PeopleTest {
         for (int what = 0; what <= 7; what++) {
             c.due("then: person(1, " + what + ")", x.person(1, what), then[what]);
         }
+        c.due("exhibits of 0", x.person(0, 6), 1);
         x.lose(1);
         c.due("exhibits of 1", x.person(1, 6), 1);
         x.seal(0, 4);
