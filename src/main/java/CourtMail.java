@@ -38,6 +38,10 @@ public final class CourtMail {
 
     private static final int LINE_END = 10;
 
+    // the reach of one who cannot see into a case, and what is seen with it
+    private static final int BLIND = -1;
+    private static final int NOTHING = 0;
+
     private final ArrayList<Case> cases = new ArrayList<>();
     private final ArrayList<Person> people = new ArrayList<>();
     private final ArrayList<Document> documents = new ArrayList<>();
@@ -189,10 +193,11 @@ public final class CourtMail {
         if (p == null || d == null) {
             throw new IndexOutOfBoundsException("no such person or document");
         }
-        if (!p.canSeeInto(d.ofCase)) {
+        int reach = p.reachInto(d.ofCase);
+        if (reach == BLIND) {
             return -1;
         }
-        writePaper(d, p.reachIn(d.ofCase));
+        writePaper(d, reach);
         d.writeLog(p);
         return paperLength;
     }
@@ -220,8 +225,10 @@ public final class CourtMail {
         if (one == null || other == null || d == null) {
             throw new IndexOutOfBoundsException("no such person or document");
         }
+        int reach = one.reachInto(d.ofCase);
+        int otherReach = other.reachInto(d.ofCase);
         for (int i = 0; i < d.text.length; i++) {
-            if (seenBy(one, d, i) != seenBy(other, d, i)) {
+            if (d.seenAt(i, reach) != d.seenAt(i, otherReach)) {
                 return i;
             }
         }
@@ -234,10 +241,10 @@ public final class CourtMail {
         if (p == null || d == null) {
             throw new IndexOutOfBoundsException("no such person or document");
         }
-        if (tapeLength == 0 || !p.canSeeInto(d.ofCase)) {
+        int reach = p.reachInto(d.ofCase);
+        if (tapeLength == 0 || reach == BLIND) {
             return -1;
         }
-        int reach = p.reachIn(d.ofCase);
         for (int start = 0; start + tapeLength <= d.text.length; start++) {
             if (isTapeSeen(d, start, reach)) {
                 return start;
@@ -549,15 +556,8 @@ public final class CourtMail {
 
     // ---- who sees what
 
-    private static int seenBy(Person p, Document d, int i) {
-        return p.canSeeInto(d.ofCase) ? d.seenAt(i, p.reachIn(d.ofCase)) : 0;
-    }
-
     private static int hiddenBytes(Person p, Document d) {
-        if (!p.canSeeInto(d.ofCase)) {
-            return d.text.length;
-        }
-        return d.countHidden(0, d.text.length, p.reachIn(d.ofCase));
+        return d.countHidden(0, d.text.length, p.reachInto(d.ofCase));
     }
 
     private int bytesSeenBy(Person p, Case c) {
@@ -955,8 +955,9 @@ public final class CourtMail {
             return (attached >> c.number & 1) == 1;
         }
 
-        int reachIn(Case c) {
-            return reachWith(clearance, c);
+        /** The reach in a case, or BLIND for one who cannot see into it. */
+        int reachInto(Case c) {
+            return canSeeInto(c) ? reachWith(clearance, c) : BLIND;
         }
 
         int reachWith(int someClearance, Case c) {
@@ -1008,8 +1009,8 @@ public final class CourtMail {
         }
 
         int seenAt(int i, int reach) {
-            if (i < 0 || i >= text.length || i >= levels.length || i >= marks.length) {
-                return 0;
+            if (reach == BLIND || i < 0 || i >= text.length || i >= levels.length || i >= marks.length) {
+                return NOTHING;
             }
             if (text[i] == LINE_END) {
                 return LINE_END;
@@ -1092,19 +1093,19 @@ public final class CourtMail {
         final byte[] text = new byte[MOST_TEXT];
         final byte[] levels = new byte[MOST_TEXT];
         final byte[] marks = new byte[MOST_TEXT];
-        int length = 0;
-        int exhibits = 0;
-        int errorPlace = -1;
+        int length;
+        int exhibits;
+        int errorPlace;
         // the level at each depth
         private final int[] veils = new int[MOST_DEPTH + 1];
-        private int depth = 0;
-        private int state = BODY;
+        private int depth;
+        private int state;
         // letters of the name, or digits of the number, so far
-        private int run = 0;
-        private int number = 0;
-        private int numberAt = 0;
-        private int ownExhibits = 0;
-        private int foreignAt = -1;
+        private int run;
+        private int number;
+        private int numberAt;
+        private int ownExhibits;
+        private int foreignAt;
 
         /** Returns the number of the error, 0 for none; then errorPlace tells where it is. */
         int take(int[] tape, int tapeLength, int ownExhibitsOfCase) {

@@ -56,6 +56,10 @@ public final class ExhibitsTest {
         // the twentieth can be marked as well as the first
         c.due("mark the last", Checks.file(x, 1, "@19"), 0);
         c.due("it is marked", x.exhibit(19, 6), 1);
+        x.addPerson(1, 0);
+        c.due("its text", Checks.read(x, 0, 0), "Ex. 19");
+        c.due("mark more", Checks.file(x, 0, "@18@10@008"), 1);
+        c.due("their text", Checks.read(x, 0, 1), "Ex. 18Ex. 10Ex. 8");
     }
 
     private static void handLinks() {
@@ -240,6 +244,8 @@ public final class ExhibitsTest {
         admitted(x, "with a lawyer", 0);
         x.hand(0, 4);
         admitted(x, "behind a lawyer", 1);
+        x.hand(0, -1);
+        admitted(x, "in the room again", 1);
         x.lose(0);
         admitted(x, "lost", 0);
         x.found(0, 1);
