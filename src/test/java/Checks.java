@@ -1,3 +1,7 @@
+import java.util.function.Consumer;
+import java.util.function.ObjIntConsumer;
+import java.util.function.Supplier;
+
 /** What the tests share: comparing answers, refused calls, and writing texts onto the tape. */
 final class Checks {
     static final Class<? extends RuntimeException> NO_INDEX = IndexOutOfBoundsException.class;
@@ -55,6 +59,43 @@ final class Checks {
         }
         if (x.digest() != before || x.errorAt() != error) {
             tell(what + " throws, and changes something");
+        }
+    }
+
+    /** As refused(), in a room of its own, which behind the call is as one in which it was never made. */
+    void refusedIn(Supplier<CourtMail> room, String what, Class<? extends RuntimeException> kind,
+            Consumer<CourtMail> call) {
+        CourtMail x = room.get();
+        refused(what, x, kind, () -> call.accept(x));
+        due(what + ", and what is told later", Later.told(x), Later.told(room.get()));
+    }
+
+    /** The call takes the least and the greatest number, and refuses the first on either side and those far off. */
+    void range(Supplier<CourtMail> room, String what, int least, int greatest, Class<? extends RuntimeException> kind,
+            ObjIntConsumer<CourtMail> call) {
+        taken(what + " with " + least, () -> call.accept(room.get(), least));
+        taken(what + " with " + greatest, () -> call.accept(room.get(), greatest));
+        outside(room, what, least, greatest, kind, call);
+    }
+
+    private void taken(String what, Call call) {
+        made++;
+        try {
+            call.run();
+        } catch (RuntimeException e) {
+            tell(what + " throws " + e + ", due is an answer");
+        }
+    }
+
+    /** The refusing part of range(). */
+    void outside(Supplier<CourtMail> room, String what, int least, int greatest, Class<? extends RuntimeException> kind,
+            ObjIntConsumer<CourtMail> call) {
+        // 256, 65536 and the least number of all look like 0 to one who keeps only some of the bits
+        for (int bad : new int[] {least - 1, greatest + 1, least - 256, Math.max(256, greatest + 1), 65536,
+            Integer.MAX_VALUE, Integer.MIN_VALUE}) {
+            if (bad < least || bad > greatest) {
+                refusedIn(room, what + " with " + bad, kind, x -> call.accept(x, bad));
+            }
         }
     }
 
