@@ -137,7 +137,8 @@ final class Checks {
     /** What is on the paper. */
     static String paper(CourtMail x) {
         StringBuilder s = new StringBuilder();
-        for (int i = 0; i < x.count(9); i++) {
+        int bytes = x.count(9);
+        for (int i = 0; i < bytes; i++) {
             s.append((char) x.byteAt(i));
         }
         return s.toString();

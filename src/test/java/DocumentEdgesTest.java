@@ -419,6 +419,11 @@ public final class DocumentEdgesTest {
         c.due("@0, the only one", Checks.file(y, 0, "@0"), 0);
         c.due("@1, the next to come", Checks.file(y, 0, "@1"), -2);
         c.due("what marked 0", y.exhibit(0, 6), 1);
+        // a tape that marked and failed leaves no mark to the next document
+        c.due("an error behind @0", Checks.file(y, 0, "@0]"), -1);
+        c.due("@0 and another's", Checks.file(y, 0, "@0@1"), -2);
+        c.due("no mark", Checks.file(y, 0, "0"), 1);
+        c.due("what marked 0", y.exhibit(0, 6), 1);
     }
 
     private static void numbersLoseTheirZeros() {
@@ -472,7 +477,7 @@ public final class DocumentEdgesTest {
     /** "Bytes of names are marked, but the first one of each": seen with the reach 0. */
     private static void marksLeaveOutTheFirst() {
         String[][] due = {{"{A}", "A"}, {"{Ab}", "A*"}, {"{abcdefghijkl}", "a***********"}, {"{A}{B}", "AB"},
-            {"{Ab}{Cd}", "A*C*"}, {"a{bc}d", "ab*d"}, {"Ab {c}d", "Ab cd"}, {"@1{xyz}@0", "Ex. 1x**Ex. 0"},
+            {"{Ab}{Cd}", "A*C*"}, {"a{bc}d", "ab*d"}, {"Ab {c}d", "Ab cd"}, {"@1{xyz}@0", "Ex. 1x**Ex. 0"}, {"@19{xy}@10", "Ex. 19x*Ex. 10"},
             {"{Ab}\n{cD}", "A*\nc*"}};
         for (String[] one : due) {
             CourtMail x = roomWith(one[0]);

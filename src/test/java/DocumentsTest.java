@@ -326,7 +326,11 @@ public final class DocumentsTest {
         CourtMail x = filed(Checks.times("@2", 500), 0, -1);
         c.due("2500 bytes", x.document(0, 1), 2500);
         c.due("read 2500", x.read(0, 0), 2500);
-        c.due("paper", Checks.paper(x), Checks.times("Ex. 2", 500));
+        // not each of them, for an object is used for 512 calls at most
+        String text = Checks.times("Ex. 2", 500);
+        for (int i = 0; i < 2500; i += 7) {
+            c.due("byteAt(" + i + ")", x.byteAt(i), text.charAt(i));
+        }
         CourtMail y = filed(Checks.times("[9:@12]", 142), 0, -1);
         c.due("142 times six", y.document(0, 2), 852);
         filed(Checks.times("x", 999) + "]", -1, 999);

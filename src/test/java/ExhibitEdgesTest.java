@@ -417,8 +417,9 @@ public final class ExhibitEdgesTest {
         exhibitIs(x, 0, 0, ROOM, 1000, 0, 0, 1, 0);
         exhibitIs(x, 19, 1, ROOM, 1019, 0, 0, 1, 0);
         for (int i = 0; i < 24; i++) {
-            Checks.file(x, 1, i == 0 ? "@19@19@019" : "@19");
+            Checks.file(x, 1, i == 0 ? "@19@19" : i == 1 ? "@19@1@019@19" : "@19");
             c.due("documents that mark 19", x.exhibit(19, 6), i + 1);
+            c.due("documents that mark 1", x.exhibit(1, 6), i == 0 ? 0 : 1);
         }
         for (int i = 0; i < 12; i++) {
             x.lose(19);
@@ -429,6 +430,15 @@ public final class ExhibitEdgesTest {
         x.lose(19);
         exhibitIs(x, 19, 1, LOST, 1019, 12, 12, 0, 24);
         exhibitIs(x, 17, 1, ROOM, 1017, 0, 0, 1, 0);
+        CourtMail y = linked(12);
+        Checks.file(y, 0, "@0");
+        Checks.file(y, 0, "no mark");
+        Checks.file(y, 0, "");
+        exhibitIs(y, 0, 0, 1, 1000, 12, 0, 1, 1);
+        exhibitIs(y, 1, 1, ROOM, 1001, 0, 0, 1, 0);
+        Checks.file(y, 1, "@1");
+        exhibitIs(y, 0, 0, 1, 1000, 12, 0, 1, 1);
+        exhibitIs(y, 1, 1, ROOM, 1001, 0, 0, 1, 1);
     }
 
     private static void admitted(String what, CourtMail x, int due) {

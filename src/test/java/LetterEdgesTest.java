@@ -36,6 +36,7 @@ public final class LetterEdgesTest {
         plainFromNoneToAll();
         digestOfTheEmptyRoom();
         digestWrapsAround();
+        theLastOfTheCalls();
         c.end();
     }
 
@@ -566,6 +567,10 @@ public final class LetterEdgesTest {
             x.file(0);
         }
         c.due("24 documents", x.plain(), 2521.0 / 2523.0);
+        CourtMail y = new CourtMail();
+        y.open(0);
+        Checks.file(y, 0, "[1:ab]c");
+        c.due("one of three, in the first document", y.plain(), 1.0 / 3.0);
     }
 
     // ---- promise 36
@@ -585,6 +590,8 @@ public final class LetterEdgesTest {
     /** The same numbers without any wrapping, and the rest by 2^64 only at the end; some of them are below zero. */
     private static void digestWrapsAround() {
         CourtMail x = room();
+        x.veil(1, 0, 2, 9);
+        x.veil(1, 5, 6, 1);
         x.takeIn(1);
         x.takeIn(0);
         x.lose(0);
@@ -613,13 +620,14 @@ public final class LetterEdgesTest {
             add(d, x.person(i / 8, i % 8));
         }
         String[] texts = {"open", "sealed"};
+        int[][] levels = {{0, 0, 0, 0}, {9, 9, 0, 0, 0, 1}};
         for (int i = 0; i < texts.length; i++) {
             for (int what = 0; what <= 7; what++) {
                 add(d, x.document(i, what));
             }
-            for (char b : texts[i].toCharArray()) {
-                add(d, b);
-                add(d, 0);
+            for (int k = 0; k < texts[i].length(); k++) {
+                add(d, texts[i].charAt(k));
+                add(d, levels[i][k]);
             }
         }
         for (int i = 0; i < x.count(4); i++) {
@@ -641,5 +649,28 @@ public final class LetterEdgesTest {
 
     private static void add(BigInteger[] d, int n) {
         d[0] = d[0].multiply(BigInteger.valueOf(31)).add(BigInteger.valueOf(n));
+    }
+
+    /** "at most 512 calls": the latest day there can be, and all that is told by it. */
+    private static void theLastOfTheCalls() {
+        CourtMail x = new CourtMail();
+        x.open(9);
+        x.addPerson(1, 0);
+        x.addPerson(0, 0);
+        x.file(0);
+        x.takeIn(0);
+        x.hand(0, 0);
+        for (int call = 7; call <= 503; call++) {
+            x.pass(100);
+        }
+        c.due("504: lend", x.lend(0, 0, 60), 49760);
+        c.due("505: send", x.send(0, 0, 30), 0);
+        c.due("506: when it is due", x.letter(0, 2), 49730);
+        c.due("507: unseal", x.unseal(0), (1000 * 31 + 49700) % 10007);
+        c.due("508: the day of its link", x.link(0, 1, 0), 49700);
+        c.due("509: arrives", x.arrives(0), 1);
+        c.due("510: pass", x.pass(100), 1);
+        c.due("511: warnings", x.person(0, 4), 1);
+        c.due("512: the day", x.count(0), 49800);
     }
 }

@@ -429,6 +429,18 @@ public final class LettersTest {
     }
 
     private static void digestTells() {
+        CourtMail x = roomToDigest();
+        c.due("digest", x.digest(), told(x));
+        c.due("digest again", x.digest(), told(x));
+        CourtMail y = roomToDigest();
+        y.read(3, 2);
+        c.due("digest of another paper", y.digest(), told(y));
+        CourtMail z = roomToDigest();
+        z.veil(0, 0, 2, 5);
+        c.due("digest of other veils", z.digest(), told(z));
+    }
+
+    private static CourtMail roomToDigest() {
         CourtMail x = room();
         Checks.file(x, 0, "a[3:{Bo}]\n");
         x.takeIn(0);
@@ -446,15 +458,10 @@ public final class LettersTest {
         x.attach(2, 1);
         Checks.write(x, "tape");
         x.read(1, 2);
-        c.due("digest", x.digest(), told(x));
-        c.due("digest again", x.digest(), told(x));
-        x.read(3, 2);
-        c.due("digest of another paper", x.digest(), told(x));
-        x.veil(0, 0, 2, 5);
-        c.due("digest of other veils", x.digest(), told(x));
+        return x;
     }
 
-    /** The checksum, from what the room tells and from the texts and levels that digestTells() filed. */
+    /** The checksum, from what the room tells and from the texts and levels of roomToDigest(). */
     private static long told(CourtMail x) {
         long d = 653;
         for (int what = 0; what <= 11; what++) {

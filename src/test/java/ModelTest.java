@@ -1,6 +1,7 @@
 /** Runs of calls, made by a fixed rule, whose answers CourtMail and Model have to share. */
 public final class ModelTest {
-    private static final int RUNS = 400;
+    private static final int RUNS = 600;
+    // an object is used for so many calls at most
     private static final int CALLS = 512;
 
     private interface Answer {
@@ -11,6 +12,9 @@ public final class ModelTest {
     private int wrong = 0;
     private int made = 0;
     private int thrown = 0;
+    // calls that may be made in this run, and those that were
+    private int limit;
+    private int used;
     private final StringBuilder told = new StringBuilder();
 
     public static void main(String[] args) {
@@ -48,6 +52,8 @@ public final class ModelTest {
     private void run(int number) {
         seed = number * 977L + 5;
         told.setLength(0);
+        used = 0;
+        limit = CALLS - 1;
         CourtMail x = new CourtMail();
         Model m = new Model();
         int tapes = number % 4;
@@ -59,17 +65,22 @@ public final class ModelTest {
             same("addPerson " + role + " " + clearance, () -> x.addPerson(role, clearance),
                 () -> m.addPerson(role, clearance));
         }
-        for (int i = 20; i < CALLS && wrong == 0; i++) {
+        for (int i = 0; used < limit && wrong == 0; i++) {
             step(x, m, below(34), tapes);
             if (i % 16 == 0) {
                 same("digest", x::digest, m::digest);
                 same("plain", () -> Double.doubleToLongBits(x.plain()), () -> Double.doubleToLongBits(m.plain()));
             }
         }
+        limit = CALLS;
         same("digest", x::digest, m::digest);
     }
 
     private void same(String call, Answer one, Answer other) {
+        if (used >= limit) {
+            return;
+        }
+        used++;
         made++;
         told.append(call).append('\n');
         String a = answer(one);
@@ -92,11 +103,11 @@ public final class ModelTest {
     }
 
     private void step(CourtMail x, Model m, int kind, int tapes) {
-        int cases = x.count(1);
-        int people = x.count(2);
-        int docs = x.count(3);
-        int things = x.count(4);
-        int mails = x.count(5);
+        int cases = m.count(1);
+        int people = m.count(2);
+        int docs = m.count(3);
+        int things = m.count(4);
+        int mails = m.count(5);
         int c = near(cases);
         int p = near(people);
         int q = near(people);
@@ -105,14 +116,14 @@ public final class ModelTest {
         int d = near(docs);
         int e = near(things);
         int l = near(mails);
-        int length = d >= 0 && d < docs ? x.document(d, 1) : 3;
+        int length = d >= 0 && d < docs ? m.document(d, 1) : 3;
         int from = near(length + 1);
         int behind = below(20) == 0 ? near(length + 1) : from + Math.max(0, below(Math.max(1, length - from + 1)));
         switch (kind) {
             case 0: case 1: case 2: write(x, m, tapes); break;
             case 3: case 4: same("file " + c, () -> x.file(c), () -> m.file(c));
                 same("errorAt", x::errorAt, m::errorAt); break;
-            case 5: int n = near(x.count(8) + 1);
+            case 5: int n = near(m.count(8) + 1);
                 same("trim " + n, () -> x.trim(n), () -> m.trim(n)); break;
             case 6: int level = near(10);
                 same("veil " + d + " " + from + " " + behind + " " + level, () -> x.veil(d, from, behind, level),
@@ -139,7 +150,7 @@ public final class ModelTest {
             case 12: int v = near(5);
                 same("caseOf " + c + " " + v, () -> x.caseOf(c, v), () -> m.caseOf(c, v)); break;
             case 13: same("read " + p + " " + d, () -> x.read(p, d), () -> m.read(p, d)); break;
-            case 14: int i = near(x.count(9));
+            case 14: int i = near(m.count(9));
                 same("byteAt " + i, () -> x.byteAt(i), () -> m.byteAt(i)); break;
             case 15: same("hidden " + p + " " + d, () -> x.hidden(p, d), () -> m.hidden(p, d)); break;
             case 16: same("differs " + p + " " + q + " " + d, () -> x.differs(p, q, d), () -> m.differs(p, q, d)); break;
@@ -162,7 +173,7 @@ public final class ModelTest {
             case 27: same("found " + e + " " + to, () -> x.found(e, to), () -> m.found(e, to)); break;
             case 28: int t = near(7);
                 same("exhibit " + e + " " + t, () -> x.exhibit(e, t), () -> m.exhibit(e, t));
-                int at = near(e >= 0 && e < things ? x.exhibit(e, 3) : 1);
+                int at = near(e >= 0 && e < things ? m.exhibit(e, 3) : 1);
                 int u = near(4);
                 same("link " + e + " " + at + " " + u, () -> x.link(e, at, u), () -> m.link(e, at, u)); break;
             case 29: case 30: int due = below(4) == 0 ? near(31) : below(4);
@@ -182,7 +193,7 @@ public final class ModelTest {
     /** Writes bytes of a document that is mostly whole. */
     private void write(CourtMail x, Model m, int tapes) {
         StringBuilder s = new StringBuilder();
-        body(s, 0, x, tapes);
+        body(s, 0, m, tapes);
         if (tapes == 0 && s.length() > 0) {
             // spoil one byte
             s.setCharAt(below(s.length()), "[]{}@:1a #\t".charAt(below(11)));
@@ -191,7 +202,7 @@ public final class ModelTest {
     }
 
     private void put(CourtMail x, Model m, String s) {
-        int before = x.count(8);
+        int before = m.count(8);
         for (int i = 0; i < s.length(); i += 20) {
             int[] n = new int[5];
             for (int k = 0; k < 20; k++) {
@@ -200,17 +211,17 @@ public final class ModelTest {
             same("feed " + n[0] + " ..", () -> x.feed(n[0], n[1], n[2], n[3], n[4]),
                 () -> m.feed(n[0], n[1], n[2], n[3], n[4]));
         }
-        int length = Math.min(x.count(8), before + s.length());
+        int length = Math.min(m.count(8), before + s.length());
         same("trim " + length, () -> x.trim(length), () -> m.trim(length));
     }
 
-    private void body(StringBuilder s, int depth, CourtMail x, int tapes) {
+    private void body(StringBuilder s, int depth, Model m, int tapes) {
         int parts = below(depth == 0 ? 12 : 4);
         for (int i = 0; i < parts; i++) {
             int dice = below(10);
             if (dice < 3 && depth < (below(30) == 0 ? 6 : 5)) {
                 s.append('[').append(1 + below(9)).append(':');
-                body(s, depth + 1, x, tapes);
+                body(s, depth + 1, m, tapes);
                 s.append(']');
             } else if (dice < 5) {
                 s.append('{');
@@ -219,9 +230,9 @@ public final class ModelTest {
                     s.append((char) ((below(2) == 0 ? 'a' : 'A') + below(26)));
                 }
                 s.append('}');
-            } else if (dice < 7 && x.count(4) > 0 && below(3) == 0) {
+            } else if (dice < 7 && m.count(4) > 0 && below(3) == 0) {
                 s.append('@');
-                int n = tapes == 1 ? below(2) : below(x.count(4) + (below(20) == 0 ? 2 : 0));
+                int n = tapes == 1 ? below(2) : below(m.count(4) + (below(20) == 0 ? 2 : 0));
                 s.append("0".repeat(below(3))).append(n);
             } else {
                 int letters = 1 + below(4);
@@ -234,12 +245,12 @@ public final class ModelTest {
 
     /** Looks for a piece of what the person sees, or for what the tape happens to be. */
     private void find(CourtMail x, Model m, int p, int d) {
-        if (x.count(9) > 0 && below(2) == 0) {
-            int from = below(x.count(9));
-            int to = from + 1 + below(Math.min(6, x.count(9) - from));
+        if (m.count(9) > 0 && below(2) == 0) {
+            int from = below(m.count(9));
+            int to = from + 1 + below(Math.min(6, m.count(9) - from));
             StringBuilder s = new StringBuilder();
             for (int i = from; i < to; i++) {
-                s.append((char) x.byteAt(i));
+                s.append((char) m.byteAt(i));
             }
             same("trim 0", () -> x.trim(0), () -> m.trim(0));
             put(x, m, s.toString());

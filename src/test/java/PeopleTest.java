@@ -91,21 +91,19 @@ public final class PeopleTest {
     }
 
     private static void reachAndSeals() {
-        CourtMail x = new CourtMail();
-        x.open(0);
         for (int role = 0; role <= 3; role++) {
+            CourtMail x = new CourtMail();
+            x.open(0);
             for (int clearance : new int[] {0, 3, 7, 8, 9}) {
-                if (x.count(2) < 12) {
-                    int p = x.addPerson(role, clearance);
-                    for (int attached = 0; attached <= 1; attached++) {
-                        int reach = role == 1 ? 9 : Math.min(9, clearance + 2 * attached);
-                        for (int seal = 0; seal <= 9; seal++) {
-                            x.seal(0, seal);
-                            String who = "role " + role + " clearance " + clearance + " attached " + attached;
-                            c.due(who + " seal " + seal, x.person(p, 3), seal <= reach ? 1 : 0);
-                        }
-                        x.attach(p, 0);
+                int p = x.addPerson(role, clearance);
+                for (int attached = 0; attached <= 1; attached++) {
+                    int reach = role == 1 ? 9 : Math.min(9, clearance + 2 * attached);
+                    for (int seal = 0; seal <= 9; seal++) {
+                        x.seal(0, seal);
+                        String who = "role " + role + " clearance " + clearance + " attached " + attached;
+                        c.due(who + " seal " + seal, x.person(p, 3), seal <= reach ? 1 : 0);
                     }
+                    x.attach(p, 0);
                 }
             }
         }
