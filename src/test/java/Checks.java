@@ -8,6 +8,9 @@ final class Checks {
     static final Class<? extends RuntimeException> NO_ARGUMENT = IllegalArgumentException.class;
     static final Class<? extends RuntimeException> NO_STATE = IllegalStateException.class;
 
+    // one fault of the class can show in thousands of checks
+    private static final int MOST_TOLD = 100;
+
     private int wrong = 0;
     private int made = 0;
 
@@ -101,7 +104,9 @@ final class Checks {
 
     private void tell(String fault) {
         wrong++;
-        System.out.println(fault);
+        if (wrong <= MOST_TOLD) {
+            System.out.println(fault);
+        }
     }
 
     void end() {

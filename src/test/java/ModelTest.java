@@ -1,8 +1,9 @@
 /** Runs of calls, made by a fixed rule, whose answers CourtMail and Model have to share. */
 public final class ModelTest {
-    private static final int RUNS = 600;
+    private static final int RUNS = 1000;
     // an object is used for so many calls at most
     private static final int CALLS = 512;
+    private static final int KINDS = 34;
 
     private interface Answer {
         long get();
@@ -15,6 +16,8 @@ public final class ModelTest {
     // calls that may be made in this run, and those that were
     private int limit;
     private int used;
+    // the kinds of calls that this run favours: so one fills a chain, another the post, a third waits for days
+    private final int[] favoured = new int[6];
     private final StringBuilder told = new StringBuilder();
 
     public static void main(String[] args) {
@@ -49,6 +52,11 @@ public final class ModelTest {
         return n <= 0 ? 0 : below(n);
     }
 
+    /** A kind of call; every other run has favourites. */
+    private int kind(int number) {
+        return number % 2 == 0 || below(6) == 0 ? below(KINDS) : favoured[below(favoured.length)];
+    }
+
     private void run(int number) {
         seed = number * 977L + 5;
         told.setLength(0);
@@ -57,6 +65,9 @@ public final class ModelTest {
         CourtMail x = new CourtMail();
         Model m = new Model();
         int tapes = number % 4;
+        for (int i = 0; i < favoured.length; i++) {
+            favoured[i] = below(KINDS);
+        }
         for (int i = 0; i < 3 + below(4); i++) {
             int seal = below(3) * below(4);
             int role = below(4);
@@ -66,7 +77,7 @@ public final class ModelTest {
                 () -> m.addPerson(role, clearance));
         }
         for (int i = 0; used < limit && wrong == 0; i++) {
-            step(x, m, below(34), tapes);
+            step(x, m, kind(number), tapes);
             if (i % 16 == 0) {
                 same("digest", x::digest, m::digest);
                 same("plain", () -> Double.doubleToLongBits(x.plain()), () -> Double.doubleToLongBits(m.plain()));
